@@ -192,7 +192,7 @@ public final class InitiatorRows {
         now = t;
         Job found = nextFor(one);
         if (found == null) {
-            return NOTHING_DONE;
+            return NO_JOB;
         }
         startJob(one, found);
         return found.number;
@@ -247,11 +247,23 @@ public final class InitiatorRows {
         if (sum <= 0) {
             throw new ArithmeticException("all weights are 0");
         }
-        // all times the weight may pass a long's range: the whole sums in all
-        // are shared exactly, so that only what is behind them needs dividing.
+        // All times a weight may pass a long's range. The whole sums in all are
+        // shared without a remainder, so only what is behind them needs dividing.
         long behind = all % sum;
+        long own = behind * weights[c] % sum;
+        long remainders = 0;
+        int ahead = 0;
+        for (int k = 0; k < weights.length; k++) {
+            long remainder = behind * weights[k] % sum;
+            remainders += remainder;
+            if (remainder > own || (remainder == own && k < c)) {
+                ahead++;
+            }
+        }
+        // The remainders add up to one sum for each that rounding down leaves over.
+        long left = remainders / sum;
         long rounded = all / sum * weights[c] + behind * weights[c] / sum;
-        return isGivenOneMore(c, behind, sum) ? rounded + 1 : rounded;
+        return ahead < left ? rounded + 1 : rounded;
     }
 
     public int order(int i) {
@@ -429,24 +441,6 @@ public final class InitiatorRows {
             sum += weights[c];
         }
         return sum;
-    }
-
-    /** The remainders add up to as many sums as are left of all when each share is rounded down. */
-    private boolean isGivenOneMore(int c, long behind, long sum) {
-        if (sum <= 0) {
-            return false;
-        }
-        long own = behind * weights[c] % sum;
-        long remainders = 0;
-        int ahead = 0;
-        for (int k = 0; k < weights.length; k++) {
-            long remainder = behind * weights[k] % sum;
-            remainders += remainder;
-            if (remainder > own || (remainder == own && k < c)) {
-                ahead++;
-            }
-        }
-        return ahead < remainders / sum;
     }
 
     private int jobsIn(int stage) {
