@@ -39,49 +39,16 @@ public final class ModelTest {
         for (int k = 0; k < CALLS; k++) {
             String method = METHODS[draw.method()];
             long[] a = draw.arguments(method, model);
-            String got = answer(rows, method, a);
+            Call call = new Call(method, a);
+            String got = call.answer(rows);
             String want = model.answer(method, a);
-            told.add(method + java.util.Arrays.toString(a) + " " + got);
+            told.add(call + " " + got);
             if (!got.equals(want)) {
                 wrong++;
                 System.out.println("run " + run + ", call " + k + ": due is " + want + " after");
                 told.subList(Math.max(0, told.size() - 12), told.size()).forEach(System.out::println);
                 return;
             }
-        }
-    }
-
-    private static String answer(InitiatorRows x, String method, long[] a) {
-        try {
-            return String.valueOf(call(x, method, a));
-        } catch (RuntimeException e) {
-            return "throws." + e.getClass().getSimpleName();
-        }
-    }
-
-    private static long call(InitiatorRows x, String method, long[] a) {
-        switch (method) {
-            case "initiator": return x.initiator();
-            case "cls": return x.cls((int) a[0], (int) a[1], (int) a[2]);
-            case "limit": return x.limit((int) a[0], (int) a[1]);
-            case "window": return x.window((int) a[0], (int) a[1], (int) a[2]);
-            case "job": return x.job((int) a[0], (int) a[1], (int) a[2], a[3]);
-            case "needs": return x.needs((int) a[0], (int) a[1]);
-            case "units": return x.units((int) a[0], (int) a[1]);
-            case "uses": return x.uses((int) a[0], (int) a[1], (int) a[2]);
-            case "alone": return x.alone((int) a[0]);
-            case "hold": return x.hold((int) a[0], a[1] != 0);
-            case "next": return x.next((int) a[0], a[1]);
-            case "end": return x.end((int) a[0]);
-            case "age": return x.age(a[0], (int) a[1]);
-            case "drain": return x.drain((int) a[0], a[1] != 0);
-            case "weight": return x.weight((int) a[0], (int) a[1]);
-            case "share": return x.share((int) a[0], a[1]);
-            case "order": return x.order((int) a[0]);
-            case "waited": return x.waited((int) a[0]);
-            case "state": return x.state((int) a[0]);
-            case "count": return x.count((int) a[0]);
-            default: throw new AssertionError(method);
         }
     }
 
