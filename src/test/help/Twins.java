@@ -152,8 +152,8 @@ final class Twins {
     }
 
     private void askNeeds() {
-        long jobs = Math.min(both("count", 1), 8);
-        for (long job = 1; job <= jobs; job++) {
+        long jobs = Math.min(both("count", 1), 12);
+        for (long job : jobsIn(0, 1)) {
             for (long needed = 1; needed <= jobs; needed++) {
                 both("needs", job, needed);
             }
@@ -191,26 +191,42 @@ final class Twins {
         }
     }
 
-    /** Ends all that runs, so that nothing stands in the way of what is asked next. */
-    private void free() {
+    /**
+     * The jobs in one of two states. What is asked of others would be refused, and
+     * if that is what changes something, it would do so in both.
+     */
+    private List<Long> jobsIn(long one, long two) {
+        List<Long> found = new ArrayList<>();
         long jobs = both("count", 1);
         for (long job = 1; job <= jobs; job++) {
+            long state = both("state", job);
+            if (state == one || state == two) {
+                found.add(job);
+            }
+        }
+        return found;
+    }
+
+    /** Ends all that runs, so that nothing stands in the way of what is asked next. */
+    private void free() {
+        for (long job : jobsIn(2, 2)) {
             both("end", job);
         }
     }
 
     private void holdAll(long on) {
-        long jobs = both("count", 1);
-        for (long job = 1; job <= jobs; job++) {
+        long from = on == 1 ? 0 : 1;
+        for (long job : jobsIn(from, from)) {
             both("hold", job, on);
         }
     }
 
-    private void startAndEnd(long initiator, long t) {
+    private boolean startAndEnd(long initiator, long t) {
         long started = both("next", initiator, t);
         if (started > 0) {
             both("end", started);
         }
+        return started > 0;
     }
 
     private void askList(long initiator) {
@@ -270,8 +286,9 @@ final class Twins {
         for (long n : numbers.headSet(1001L)) {
             long job = both("job", 0, 15, 99, now);
             both("uses", job, kind, n);
-            startAndEnd(1, now);
-            both("hold", job, 1);
+            if (!startAndEnd(1, now)) {
+                both("hold", job, 1);
+            }
         }
     }
 
