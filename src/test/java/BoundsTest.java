@@ -723,7 +723,8 @@ public final class BoundsTest {
     private static void orderByPriorityThenArrival() {
         Sentence s = Sentence.of("by their priority now, then arrival");
         s.anew(1, 9).rows("job(5, 3, 0, 0) -> 1", "job(0, 4, 0, 0) -> 2", "job(9, 3, 0, 0) -> 3",
-                "job(1, 4, 0, 5) -> 4", "job(2, 15, 0, 5) -> 5", "job(2, 0, 0, 5) -> 6", "order(0) -> 5", "order(1) -> 2", "order(2) -> 4",
+                "job(1, 4, 0, 5) -> 4", "job(2, 15, 0, 5) -> 5", "job(2, 0, 0, 5) -> 6", "order(0) -> 5",
+                "order(1) -> 2", "order(2) -> 4",
                 "order(3) -> 1", "order(4) -> 3", "order(5) -> 6", "order(6) -> -1", "age(5, 4) -> 1", "order(0) -> 5",
                 "order(1) -> 1", "order(2) -> 2", "order(3) -> 3", "order(4) -> 4", "order(5) -> 6",
                 "hold(3, true) -> 1", "next(1, 24) -> 0", "order(4) -> 6", "job(0, 4, 0, 24) -> 7", "order(4) -> 7",

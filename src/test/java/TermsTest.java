@@ -558,9 +558,9 @@ public final class TermsTest {
         s.rows("next(0, 150) -> -2", "next(5, 150) -> -2", "next(1, 150) -> -5", "next(3, 150) -> -5",
                 "next(4, 99) -> -4", "next(4, LMIN) -> -4", "end(0) -> -2", "end(13) -> -2", "end(2) -> -5",
                 "end(5) -> -5", "end(6) -> -5", "end(7) -> -5", "age(-1, 15) -> -4", "age(LMIN, 15) -> -4",
-                "age(1, -1) -> -4", "age(1, 16) -> -4", "drain(0, true) -> -2", "drain(5, true) -> -2", "drain(0, false) -> -2",
-                "drain(3, true) -> 0", "drain(1, false) -> 0", "weight(-1, 9) -> -4", "weight(36, 9) -> -4",
-                "weight(0, -1) -> -4", "weight(0, 1001) -> -4");
+                "age(1, -1) -> -4", "age(1, 16) -> -4", "drain(0, true) -> -2", "drain(5, true) -> -2",
+                "drain(0, false) -> -2", "drain(3, true) -> 0", "drain(1, false) -> 0", "weight(-1, 9) -> -4",
+                "weight(36, 9) -> -4", "weight(0, -1) -> -4", "weight(0, 1001) -> -4");
     }
 
     private static void askingChangesNothing() {
@@ -580,8 +580,8 @@ public final class TermsTest {
     private static void busy(Sentence s) {
         s.anew(4, 0).rows("cls(1, 1, 1) -> 1", "cls(2, 7, 35) -> 1", "cls(4, 0, 35) -> 1", "cls(4, 1, 1) -> 1",
                 "limit(0, 3) -> 1", "limit(1, 1) -> 1", "window(0, 90, 600) -> 1", "window(1, 1200, 300) -> 1",
-                "weight(0, 3) -> 1", "weight(1, 5) -> 1", "weight(35, 7) -> 1", "units(0, 10) -> 1", "units(3, 1000) -> 1",
-                "age(10, 9) -> 1");
+                "weight(0, 3) -> 1", "weight(1, 5) -> 1", "weight(35, 7) -> 1", "units(0, 10) -> 1",
+                "units(3, 1000) -> 1", "age(10, 9) -> 1");
         s.rows("job(0, 5, 1, 81) -> 1", "job(0, 9, 2, 82) -> 2", "job(1, 4, 3, 83) -> 3", "job(35, 1, 2, 84) -> 4",
                 "job(0, 3, 5, 85) -> 5", "job(0, 15, 6, 86) -> 6", "job(1, 7, 1, 87) -> 7", "job(1, 8, 8, 88) -> 8",
                 "job(35, 0, 9, 89) -> 9", "job(0, 2, 2, 90) -> 10", "job(35, 3, 11, 91) -> 11",
